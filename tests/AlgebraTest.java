@@ -25,6 +25,7 @@ public final class AlgebraTest {
         parts();
         closures();
         counts();
+        compared();
         Check.end("AlgebraTest");
     }
 
@@ -32,6 +33,14 @@ public final class AlgebraTest {
     static int oneSided(Residuary x) {
         int a = x.chain('h', 4);
         x.tell(a, 1, 2, 1);
+        x.tell(a, 2, 2, 2);
+        return a;
+    }
+
+    /** The same with the sides turned: 2 1 is 1, 1 2 is 0. */
+    static int otherSided(Residuary x) {
+        int a = x.chain('h', 4);
+        x.tell(a, 2, 1, 1);
         x.tell(a, 2, 2, 2);
         return a;
     }
@@ -228,6 +237,16 @@ public final class AlgebraTest {
         int b = x.chain('h', 4);
         x.tell(b, 1, 1, 1);
         Check.isFalse("does not keep the order", x.isRight(b));
+        int left = x.chain('h', 4);
+        int right = x.chain('h', 4);
+        for (int i = 1; i < 3; i++) {
+            for (int j = 1; j < 3; j++) {
+                x.tell(left, i, j, i);
+                x.tell(right, i, j, j);
+            }
+        }
+        Check.isFalse("keeps the order of the second ones alone", x.isRight(left));
+        Check.isFalse("keeps the order of the first ones alone", x.isRight(right));
         int c = x.chain('h', 3);
         x.tell(c, 1, 2, 0);
         Check.isFalse("no unit behind", x.isRight(c));
@@ -321,11 +340,12 @@ public final class AlgebraTest {
         filter(x, x.chain('g', 4), 4, 4, false, true);
         filter(x, x.times(g2, g2), 4, 4, false, false);
         filter(x, oneSided(x), 3, 2, true, true);
+        filter(x, otherSided(x), 3, 2, true, true);
         filter(x, fork(x), 5, 5, false, true);
         int bad = x.chain('h', 3);
         x.tell(bad, 1, 1, 2);
-        Check.fails("filters, no algebra", INDEX, () -> x.filters(7, true));
-        Check.fails("isSimple, no algebra", INDEX, () -> x.isSimple(7));
+        Check.fails("filters, no algebra", INDEX, () -> x.filters(99, true));
+        Check.fails("isSimple, no algebra", INDEX, () -> x.isSimple(99));
         Check.fails("isOne, no algebra", INDEX, () -> x.isOne(-7));
         Check.fails("filters, not right", UNSUPPORTED, () -> x.filters(bad, false));
         Check.fails("isSimple, not right", UNSUPPORTED, () -> x.isSimple(bad));
@@ -376,6 +396,8 @@ public final class AlgebraTest {
         Check.isFalse("arrows are not kept", x.isPart(g3, square));
         Check.isFalse("no chain", x.isPart(square, g4));
         Check.isTrue("a factor of its square", x.isPart(g2, square));
+        Check.isFalse("the least one is not 0", x.isPart(l3, x.sum(g2, l3)));
+        Check.isTrue("the least one is 0", x.isPart(l3, x.sum(l3, g2)));
         int one = oneSided(x);
         Check.isFalse("one side", x.isPart(g3, one));
         x.tell(one, 2, 2, 1);
@@ -422,5 +444,91 @@ public final class AlgebraTest {
         Check.fails("too few", ARGUMENT, () -> x.count(1, true));
         Check.fails("too many", ARGUMENT, () -> x.count(6, false));
         Check.fails("no algebra is added", INDEX, () -> x.elements(0));
+    }
+
+    /** Maps and closures, all gone through one by one. */
+    private static void compared() {
+        Residuary x = new Residuary();
+        x.chain('l', 3);
+        x.chain('d', 4);
+        x.chain('g', 2);
+        oneSided(x);
+        otherSided(x);
+        x.times(2, 0);
+        x.times(2, 1);
+        x.sum(x.times(2, 2), 2);
+        x.sum(2, 3);
+        fork(x);
+        x.sum(0, 3);
+        for (int i = 0; i < 12; i++) {
+            for (int j = 0; j < 12; j++) {
+                boolean areSmall = x.elements(i) <= x.elements(j) && x.elements(j) <= 6;
+                if (areSmall) {
+                    Check.same(i + " a part of " + j, x.isPart(i, j), mapped(x, i, j, new int[x.elements(i)], 0, "&|*<>"));
+                    Check.same(i + " alike " + j, x.areAlike(i, j),
+                            x.elements(i) == x.elements(j) && mapped(x, i, j, new int[x.elements(i)], 0, "*"));
+                }
+            }
+            for (int set = 0; set < 1 << x.elements(i); set++) {
+                Check.same("the part of " + set + " in " + i, x.part(i, set), closed(x, i, set));
+            }
+        }
+    }
+
+    private static boolean mapped(Residuary x, int from, int into, int[] image, int at, String kinds) {
+        if (at == image.length) {
+            return isKept(x, from, into, image, kinds);
+        }
+        for (int target = 0; target < x.elements(into); target++) {
+            boolean isFree = true;
+            for (int i = 0; i < at; i++) {
+                isFree &= image[i] != target;
+            }
+            image[at] = target;
+            if (isFree && mapped(x, from, into, image, at + 1, kinds)) {
+                return true;
+            }
+        }
+        return false;
+    }
+
+    private static boolean isKept(Residuary x, int from, int into, int[] image, String kinds) {
+        int top = image.length - 1;
+        if (kinds.length() > 1 && (image[0] != 0 || image[top] != x.elements(into) - 1)) {
+            return false;
+        }
+        for (int a = 0; a <= top; a++) {
+            for (int b = 0; b <= top; b++) {
+                if (x.isBelow(from, a, b) != x.isBelow(into, image[a], image[b])) {
+                    return false;
+                }
+                for (char by : kinds.toCharArray()) {
+                    if (image[x.make(from, by, a, b)] != x.make(into, by, image[a], image[b])) {
+                        return false;
+                    }
+                }
+            }
+        }
+        return true;
+    }
+
+    /** The meet of all sets that hold the elements and what any two of theirs make. */
+    private static int closed(Residuary x, int algebra, int elements) {
+        int n = x.elements(algebra);
+        int result = (1 << n) - 1;
+        for (int set = 0; set < 1 << n; set++) {
+            boolean isClosed = (set & elements) == elements && (set & 1) != 0 && (set >> n - 1 & 1) != 0;
+            for (int a = 0; a < n && isClosed; a++) {
+                for (int b = 0; b < n && isClosed; b++) {
+                    for (char by : "&|*<>".toCharArray()) {
+                        isClosed &= (set >> a & 1) == 0 || (set >> b & 1) == 0 || (set >> x.make(algebra, by, a, b) & 1) != 0;
+                    }
+                }
+            }
+            if (isClosed) {
+                result &= set;
+            }
+        }
+        return result;
     }
 }

@@ -184,6 +184,10 @@ public final class FormulaTest {
         Check.same("one was there", x.formulas(), 7);
         Check.fails("no formula", INDEX, () -> x.deny(7));
         Check.fails("no formula", INDEX, () -> x.deny(-1));
+        Residuary y = new Residuary();
+        Build.all(y, "0 v0");
+        Check.same("0 is there", y.deny(1), 3);
+        Check.same("0 denied", y.deny(0), 5);
     }
 
     private static void translated() {
@@ -211,6 +215,8 @@ public final class FormulaTest {
         Check.same("a join", Build.all(z, "1 |0,0"), 1);
         Check.same("a join without variables needs 0", z.translate(1), 4);
         Check.same("0 first", z.formula('0', 0, 0), 2);
+        Check.same("the formula 0", z.translate(0), 0);
+        Check.same("0 itself", z.translate(2), 2);
         Check.fails("no formula", INDEX, () -> z.translate(5));
         Check.fails("no formula", INDEX, () -> z.translate(-1));
     }

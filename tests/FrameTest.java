@@ -107,6 +107,13 @@ public final class FrameTest {
         x.has(0, 0);
         Check.isFalse("whatever is told", x.holdsAlways(0));
         Check.isTrue("what is told stays", x.holds(2, 0));
+        x.clearFrame();
+        x.world();
+        x.world();
+        x.world();
+        x.above(1, 2);
+        Check.isFalse("v0 or not, in a chain apart", x.holdsAlways(3));
+        Check.isTrue("not or not not, in worlds and a chain", x.holdsAlways(5));
         Check.fails("no formula", INDEX, () -> x.holdsAlways(13));
     }
 
@@ -168,6 +175,8 @@ public final class FrameTest {
         Check.isTrue("v0 and not is never true", x.isFour(13));
         Check.isTrue("v0, or v1 if so", x.isFour(14));
         Check.isFalse("v0, told as both", x.isFour(0));
+        int v3 = x.formula('v', 3, 0);
+        Check.isFalse("the last variable denied", x.isFour(x.formula('<', v3, 7)));
         Check.isTrue("1", x.isFour(8));
         Check.isFalse("0", x.isFour(7));
     }

@@ -1243,14 +1243,10 @@ public final class Residuary {
             return denial < 0 ? NONE : insert(UNDER, denial, zero);
         }
 
+        /** What has to be added first is a double denial, so '0' is the first of all by itself. */
         int insertTranslation(int formula) {
-            boolean needsZero = false;
             for (int i = 0; i <= formula; i++) {
                 image[i] = NONE;
-                needsZero |= (parts[formula] >> i & 1) != 0 && (kind[i] == VARIABLE || kind[i] == JOIN);
-            }
-            if (needsZero && insert(ZERO, 0, 0) < 0) {
-                return NONE;
             }
             return translated(this, formula, 0);
         }
