@@ -307,7 +307,14 @@ public final class Residuary {
             throws IllegalArgumentException, IndexOutOfBoundsException, UnsupportedOperationException {
         needLogic(logic);
         needFormula(formula);
-        return isDerived(logic, NONE, formula);
+        if (logic == 'i') {
+            needFewParts(store.parts[formula]);
+            return saturation.isDerived(store.parts[formula], NONE, formula);
+        }
+        search.clearRow();
+        int proofSize = search.smallestProof(logic, formula);
+        needFound(proofSize);
+        return proofSize > 0;
     }
 
     public int proof(char logic, int formula)
@@ -330,7 +337,16 @@ public final class Residuary {
         needLogic(logic);
         needFormula(formula);
         needFormula(other);
-        return isDerived(logic, formula, other);
+        if (logic == 'i') {
+            long parts = store.parts[formula] | store.parts[other];
+            needFewParts(parts);
+            return saturation.isDerived(parts, formula, other);
+        }
+        search.clearRow();
+        search.push(formula);
+        int proofSize = search.smallestProof(logic, other);
+        needFound(proofSize);
+        return proofSize > 0;
     }
 
     // ---- frames, four values
@@ -544,8 +560,16 @@ public final class Residuary {
             }
         }
         for (int formula = 0; formula < store.size; formula++) {
-            if (store.signs[formula] <= LONGEST_CHECKED && !isSound(formula)) {
-                return false;
+            if (store.signs[formula] <= LONGEST_CHECKED) {
+                search.clearRow();
+                boolean isForAll = search.smallestProof('l', formula) > 0;
+                search.clearRow();
+                boolean isForCommuting = search.smallestProof('w', formula) > 0;
+                long parts = store.parts[formula];
+                boolean isForIdempotent = Long.bitCount(parts) <= MOST_PARTS && saturation.isDerived(parts, NONE, formula);
+                if (!isValidWhereProved(formula, isForAll, isForCommuting, isForIdempotent)) {
+                    return false;
+                }
             }
         }
         return true;
@@ -623,6 +647,12 @@ public final class Residuary {
         }
     }
 
+    private static void needFewParts(long parts) {
+        if (Long.bitCount(parts) > MOST_PARTS) {
+            throw new UnsupportedOperationException("too many parts");
+        }
+    }
+
     private static void needFound(int proofSize) {
         if (proofSize < 0) {
             throw new UnsupportedOperationException("the search gives up");
@@ -691,32 +721,8 @@ public final class Residuary {
         return NONE;
     }
 
-    /** The row is the one formula, or nothing if that is NONE. */
-    private boolean isDerived(char logic, int formula, int goal) {
-        if (logic == 'i') {
-            long parts = store.parts[goal] | (formula < 0 ? 0L : store.parts[formula]);
-            if (Long.bitCount(parts) > MOST_PARTS) {
-                throw new UnsupportedOperationException("too many parts");
-            }
-            return saturation.isDerived(parts, formula, goal);
-        }
-        search.clearRow();
-        if (formula >= 0) {
-            search.push(formula);
-        }
-        int proofSize = search.smallestProof(logic, goal);
-        needFound(proofSize);
-        return proofSize > 0;
-    }
-
-    /** Whether the formula is valid where its proofs say that it has to be. */
-    private boolean isSound(int formula) {
-        search.clearRow();
-        boolean isForAll = search.smallestProof('l', formula) > 0;
-        search.clearRow();
-        boolean isForCommuting = search.smallestProof('w', formula) > 0;
-        long parts = store.parts[formula];
-        boolean isForIdempotent = Long.bitCount(parts) <= MOST_PARTS && saturation.isDerived(parts, NONE, formula);
+    /** Whether the formula is valid in each algebra in which one of its proofs says that it has to be. */
+    private boolean isValidWhereProved(int formula, boolean isForAll, boolean isForCommuting, boolean isForIdempotent) {
         for (int i = 0; i < algebraCount; i++) {
             Algebra algebra = algebras[i];
             if (algebra.isRight && (isForAll || (isForCommuting && algebra.obeys('c'))
@@ -1489,14 +1495,20 @@ public final class Residuary {
             }
             int asked = keep(formula);
             for (int i = 0; i < kept && i < MOST && !gaveUp; i++) {
-                readBackward(i);
+                turnTo(i);
+                readBackward();
             }
             if (gaveUp || asked < 0) {
                 return NONE;
             }
             sortByWeight();
             for (int i = 0; i < kept; i++) {
-                measure(order[i]);
+                turnTo(order[i]);
+                if (isClosed()) {
+                    proofs[at] = 1;
+                } else {
+                    readBackward();
+                }
             }
             return proofs[asked];
         }
@@ -1582,15 +1594,6 @@ public final class Residuary {
             }
         }
 
-        private void measure(int sequent) {
-            turnTo(sequent);
-            if (isClosed()) {
-                proofs[sequent] = 1;
-            } else {
-                readBackward(sequent);
-            }
-        }
-
         private void turnTo(int sequent) {
             at = sequent;
             base = sequent * WIDEST;
@@ -1614,8 +1617,7 @@ public final class Residuary {
         }
 
         /** Goes through all rules that could end in the sequent, and offers what they need. */
-        private void readBackward(int sequent) {
-            turnTo(sequent);
+        private void readBackward() {
             readGoal();
             for (int i = 0; i < width && !gaveUp; i++) {
                 // Without an order, the same formula again would need the same again.
@@ -1712,37 +1714,34 @@ public final class Residuary {
 
         /**
          * Offers all ways in which some of the row lead to one formula, and the rest, with the other one
-         * in the given place, to the goal; without a place, the rest lead to the other one.
+         * in the given place, to the goal; without a place, the rest lead to the other one. In an order,
+         * these are the ways to take some right ahead of the place, or right behind it; of none, any.
          */
         private void partRow(int place, int one, int other) {
-            if (!isOrdered) {
-                partUnordered(place, one, other);
-            } else if (place >= 0 && store.kind[rows[base + place]] == UNDER) {
-                for (int from = 0; from <= place; from++) {
-                    offerParted((1 << place) - (1 << from), place, one, other);
-                }
-            } else {
-                int from = place + 1;
-                for (int to = from; to <= width; to++) {
-                    offerParted((1 << to) - (1 << from), place, one, other);
+            boolean isAhead = place >= 0 && store.kind[rows[base + place]] == UNDER;
+            int most = isAhead ? place : width - place - 1;
+            int ways = isOrdered ? most + 1 : 1 << width;
+            int repeats = repeatsBut(place);
+            int barred = place < 0 ? 0 : 1 << place;
+            for (int way = 0; way < ways && !gaveUp; way++) {
+                if (isOrdered) {
+                    offerParted((1 << way) - 1 << (isAhead ? place - way : place + 1), place, one, other);
+                } else if ((way & barred) == 0 && (way & repeats & ~(way << 1)) == 0) {
+                    // Of equal formulas, only the first ones are taken, so that no parting comes twice.
+                    offerParted(way, place, one, other);
                 }
             }
         }
 
-        private void partUnordered(int place, int one, int other) {
+        /** The formulas that are the same as the one ahead, unless that one is in the given place. */
+        private int repeatsBut(int place) {
             int repeats = 0;
             for (int i = 1; i < width; i++) {
                 if (i - 1 != place && rows[base + i] == rows[base + i - 1]) {
                     repeats |= 1 << i;
                 }
             }
-            int barred = place < 0 ? 0 : 1 << place;
-            for (int taken = 0; taken < 1 << width && !gaveUp; taken++) {
-                // Of equal formulas, only the first ones are taken, so that no parting comes twice.
-                if ((taken & barred) == 0 && (taken & repeats & ~(taken << 1)) == 0) {
-                    offerParted(taken, place, one, other);
-                }
-            }
+            return repeats;
         }
 
         private void offerParted(int taken, int place, int one, int other) {
