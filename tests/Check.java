@@ -6,12 +6,22 @@ final class Check {
 
     private static int wrong = 0;
     private static int checked = 0;
+    private static String about = "";
+
+    /** What the next checks are for; it is told ahead of an answer that is not due. */
+    static void about(String text) {
+        about = text.isEmpty() ? "" : text + ": ";
+    }
+
+    static int count() {
+        return checked;
+    }
 
     static void same(String what, Object got, Object due) {
         checked++;
         if (!due.equals(got)) {
             wrong++;
-            System.out.println(what + " answered " + got + ", due is " + due);
+            System.out.println(about + what + " answered " + got + ", due is " + due);
         }
     }
 

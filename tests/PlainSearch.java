@@ -22,6 +22,8 @@ final class PlainSearch {
     /** How many unlike sequents were come to, at most the limit; and the longest row. */
     int reached;
     int longest;
+    /** Whether nothing is come to from a sequent that is closed, which the document does not say. */
+    boolean stopsAtClosed;
 
     int add(Residuary x, char kind, int first, int second) {
         int number = x.formula(kind, first, second);
@@ -80,7 +82,8 @@ final class PlainSearch {
             if (longest > 12) {
                 break;
             }
-            for (List<List<Integer>> needs : rules(next)) {
+            boolean goesOn = !stopsAtClosed || !isClosed(next);
+            for (List<List<Integer>> needs : goesOn ? rules(next) : List.<List<List<Integer>>>of()) {
                 for (List<Integer> need : needs) {
                     if (seen.add(need)) {
                         open.add(need);

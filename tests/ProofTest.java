@@ -25,7 +25,7 @@ public final class ProofTest {
         Check.end("ProofTest");
     }
 
-    private static String answer(char logic, String text) {
+    static String answer(char logic, String text) {
         Residuary x = new Residuary();
         int formula = Build.all(x, text);
         int before = x.formulas();
@@ -44,7 +44,8 @@ public final class ProofTest {
         return result;
     }
 
-    private static void size(String text, String l, String e, String w) {
+    /** The size of the smallest proof in each of the three, "none" or "gives up". */
+    static void size(String text, String l, String e, String w) {
         Check.same("l " + text, answer('l', text), l);
         Check.same("e " + text, answer('e', text), e);
         Check.same("w " + text, answer('w', text), w);
@@ -115,7 +116,7 @@ public final class ProofTest {
         Check.same("a size beyond", answer('e', text.toString()), String.valueOf(Integer.MAX_VALUE));
     }
 
-    private static void proved(String text, boolean i) {
+    static void proved(String text, boolean i) {
         Residuary x = new Residuary();
         int formula = Build.all(x, text);
         Check.same("i " + text, x.isProved('i', formula), i);
