@@ -335,6 +335,16 @@ final class ProofEdges {
             ProofTest.size("v0 v1 <0,1 *0,1 <2,3 <0,4", "none", "none", "none");
             // Each of both to either side, also a formula that is there twice.
             ProofTest.size("v0 v1 *0,1 *2,2 *0,0 *1,1 *4,5 <3,6", "none", "11", "11");
+            ProofTest.size("v0 v1 *0,0 *2,1 *1,2 <3,4", "none", "8", "8");
+            ProofTest.size("v0 v1 *0,0 *2,1 *0,1 *4,0 <3,5", "none", "8", "8");
+            ProofTest.size("v0 v1 *0,0 *1,2 <1,3 <0,4 <0,5", "8", "8", "8");
+            ProofTest.size("v0 v1 *0,0 *1,2 <0,3 <0,4 <1,5", "none", "8", "8");
+            ProofTest.size("v0 v1 *0,0 *1,2 >3,0 >4,0 >5,1", "8", "8", "8");
+            // v1 alone, or with one of v0 or both, leads to what an arrow in the row asks for.
+            ProofTest.size("v0 v1 v2 *0,0 <1,2 *3,2 <0,5 <0,6 <1,7 <4,8", "11", "11", "11");
+            ProofTest.size("v0 v1 v2 *0,0 <1,2 *3,1 *5,4 *3,2 <6,7", "11", "11", "11");
+            ProofTest.size("v0 v1 v2 *0,0 *0,1 <4,2 *3,1 *6,5 *0,2 <7,8", "11", "11", "11");
+            ProofTest.size("v0 v1 v2 *0,0 *3,1 <4,2 *4,5 <6,2", "11", "11", "11");
         });
     }
 
