@@ -22,6 +22,7 @@ public final class ProofTest {
         parts();
         exceptions();
         compared();
+        oneAfterTheOther();
         Check.end("ProofTest");
     }
 
@@ -280,6 +281,44 @@ public final class ProofTest {
             Check.same("round " + round + " in i", x.leads('i', other, formula), plain.intuitionistic(row, plain.tree(formula)));
         } catch (UnsupportedOperationException e) {
             Check.isTrue("more than 9 formulas", x.formulas() > 9);
+        }
+    }
+
+    /** No search leaves anything to the next one: all answers are those of an object that was asked nothing else. */
+    private static void oneAfterTheOther() {
+        // Of these, 1468 and 1740 show a single row of the hash that is not emptied.
+        for (int seed : new int[] {100, 101, 102, 103, 104, 105, 1468, 1740}) {
+            Draw draw = new Draw(seed);
+            Residuary x = new Residuary();
+            int all = mixed(x, seed);
+            for (int call = 0; call < 440; call++) {
+                char logic = draw.of("lewi");
+                int formula = draw.below(all);
+                int other = draw.below(all);
+                Residuary fresh = new Residuary();
+                mixed(fresh, seed);
+                String what = logic + " from " + formula + " to " + other + " of " + seed;
+                Check.same(what, told(() -> x.leads(logic, formula, other)), told(() -> fresh.leads(logic, formula, other)));
+            }
+        }
+    }
+
+    /** Some forty formulas, most of them short; tells how many. */
+    private static int mixed(Residuary x, int seed) {
+        Draw draw = new Draw(seed);
+        int all = 1 + Build.all(x, "v0 v1 0 1");
+        for (int i = 0; i < 45 && all < 40; i++) {
+            int below = Math.min(all, 14);
+            all = Math.max(all, 1 + x.formula(draw.of("&|*<>"), draw.below(below), draw.below(below)));
+        }
+        return all;
+    }
+
+    private static String told(Check.Call call) {
+        try {
+            return String.valueOf(call.run());
+        } catch (RuntimeException e) {
+            return e.getClass().getName();
         }
     }
 }
